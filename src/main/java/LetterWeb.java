@@ -361,16 +361,14 @@ public final class LetterWeb {
         if (holder == other || most < 1) {
             throw new IllegalArgumentException("both holders are the same, or the number is below 1");
         }
+        int count = shelves.size(holder);
         int sold = 0;
-        int index = 0;
-        while (index < shelves.size(holder) && sold < most) {
-            int letter = shelves.letterAt(holder, index);
-            if (isBetween(letter, person, NONE)) {
-                // The next letter of the row takes the place of the one that leaves it.
+        for (int step = 0; step < count && sold < most; step++) {
+            // Each letter that was sold has left the row, so those behind it stand so much nearer.
+            int letter = shelves.letterAt(holder, step - sold);
+            if (isOfOrTo(letter, person)) {
                 shelves.move(letter, other);
                 sold++;
-            } else {
-                index++;
             }
         }
         return sold;
@@ -583,17 +581,16 @@ public final class LetterWeb {
         chains.find(letters, histories);
     }
 
-    /** Whether a letter is of or to the one and of or to the other; a person that is NONE is everybody. */
-    private boolean isBetween(int letter, int person, int other) {
-        return isOfOrTo(letter, person) && isOfOrTo(letter, other);
-    }
-
+    /** Whether a letter is of or to a person; NONE is everybody. */
     private boolean isOfOrTo(int letter, int person) {
+        if (!isWithin(letter, letterCount - 1)) {
+            return false;
+        }
         return person == NONE || letters[letter].writer == person || letters[letter].reader == person;
     }
 
     private boolean isKeptBetween(int letter, int person, int other) {
-        return person != other && !letters[letter].isGone && isBetween(letter, person, other);
+        return person != other && !letters[letter].isGone && isOfOrTo(letter, person) && isOfOrTo(letter, other);
     }
 
     private int silenceAfter(int letter, int person, int other) {

@@ -7,6 +7,7 @@ import java.util.TreeMap;
 
 /** Long runs of made-up calls, each answered by the class and by the plain model. */
 public final class ModelTest {
+    private static final Map<String, Integer> COUNTS = new TreeMap<>();
     private static long seed;
 
     private ModelTest() {
@@ -19,6 +20,7 @@ public final class ModelTest {
         for (int run = from; run < from + runs; run++) {
             seed = run * 7919L + 17;
             compare(run, answers);
+            compareChains(run, answers);
         }
         if (args.length > 0) {
             answers.forEach((call, times) -> System.out.println(call + " " + times));
@@ -37,20 +39,68 @@ public final class ModelTest {
         int persons = 2 + pick(4);
         int places = 1 + pick(3);
         int span = new int[] {12, 40, 200, 985}[pick(4)];
+        COUNTS.clear();
         List<String> told = new ArrayList<>();
-        for (int call = 0; call < 160; call++) {
+        for (int call = 0; call < 200; call++) {
             Object[] row = call < persons ? row("person")
-                : call < persons + places ? row("place") : made(persons, places, span);
+                : call < persons + places ? row("place") : made(model, persons, places, span);
             String text = row[0] + argumentText(row);
             told.add(text);
             Object want = ask(model, row);
             Object got = ask(web, row);
-            answers.merge(row[0] + (want instanceof Class<?> thrown ? " " + thrown.getSimpleName() : ""), 1, Integer::sum);
+            if (!(want instanceof Class<?>)) {
+                COUNTS.merge(row[0].equals("lost") ? "letter" : (String) row[0], 1, Integer::sum);
+            }
+            String kind = want instanceof Class<?> thrown ? " " + thrown.getSimpleName() : row[0].equals("chain") ? " " + want : "";
+            answers.merge(row[0] + kind, 1, Integer::sum);
             Check.due("run " + run + " call " + told.size() + " " + text, got, want);
             if (!want.equals(got)) {
                 told.forEach(line -> System.out.println("  " + line));
                 return;
             }
+        }
+    }
+
+    /** A run in which most letters tell one fact and letters are shown, so that chains are long. */
+    private static void compareChains(int run, Map<String, Integer> answers) throws Exception {
+        LetterWeb web = new LetterWeb();
+        PlainModel model = new PlainModel();
+        int persons = 3 + pick(3);
+        int letters = 5 + pick(4);
+        List<Object[]> calls = new ArrayList<>();
+        for (int person = 0; person < persons; person++) {
+            calls.add(row("person"));
+        }
+        calls.add(row("place"));
+        calls.add(row("fact", 0, pick(30)));
+        for (int letter = 0; letter < letters; letter++) {
+            int least = pick(4);
+            calls.add(row("route", 0, 0, least, least + pick(8)));
+            int writer = pick(persons);
+            int reader = (writer + 1 + (pick(3) > 0 ? 0 : pick(persons - 1))) % persons;
+            calls.add(row("letter", writer, reader, 0, 0));
+            if (pick(8) > 0) {
+                calls.add(row("tell", letter, 0));
+            }
+            if (pick(2) > 0) {
+                calls.add(row("show", letter, pick(persons)));
+            }
+            if (pick(2) > 0) {
+                calls.add(row("date", letter, pick(40), "no?".charAt(pick(3)), 1 + pick(2)));
+            }
+            calls.add(row(new String[] {"mention", "cross", "answer", "order", "enclose"}[pick(5)], letter, pick(letter + 1)));
+        }
+        for (int person = 0; person < persons; person++) {
+            calls.add(row("knows", person, 0));
+            calls.add(row("chain", person, 0));
+            for (int index = 0; index < 4; index++) {
+                calls.add(row("chainAt", person, 0, index));
+            }
+        }
+        for (Object[] row : calls) {
+            Object want = ask(model, row);
+            answers.merge("chains " + row[0] + (row[0].equals("chain") ? " " + want : ""), 1, Integer::sum);
+            Check.due("chain run " + run + " " + row[0] + argumentText(row), ask(web, row), want);
         }
     }
 
@@ -73,7 +123,29 @@ public final class ModelTest {
     }
 
     private static int letterNear() {
-        return near(3 + pick(8));
+        return near(Math.max(1, COUNTS.getOrDefault("letter", 0)));
+    }
+
+    private static int factNear() {
+        return near(Math.max(1, COUNTS.getOrDefault("fact", 0)));
+    }
+
+    private static int holderNear() {
+        return near(Math.max(1, COUNTS.getOrDefault("holder", 0)));
+    }
+
+    /** A letter of the one's reader to its writer, if there is one, mostly. */
+    private static int backTo(PlainModel model, int letter) {
+        int count = COUNTS.getOrDefault("letter", 0);
+        int start = Math.max(0, letterNear());
+        for (int step = 0; step < count && letter >= 0 && letter < count && pick(20) > 0; step++) {
+            int other = (start + step) % count;
+            if (model.personOf(letter, true) == model.personOf(other, false)
+                && model.personOf(letter, false) == model.personOf(other, true)) {
+                return other;
+            }
+        }
+        return start;
     }
 
     private static int day(int span) {
@@ -81,34 +153,35 @@ public final class ModelTest {
         return kind == 0 ? -1 : kind == 1 ? 1000 : kind == 2 ? 999 : pick(span);
     }
 
-    private static Object[] made(int persons, int places, int span) {
+    private static Object[] made(PlainModel model, int persons, int places, int span) {
         int kind = pick(100);
         boolean either = pick(2) == 0;
-        if (kind < 5) {
+        int one = letterNear();
+        if (kind < 3) {
             int least = near(12);
             return row("route", near(places), near(places), least, least + near(8));
-        } else if (kind < 19) {
+        } else if (kind < 12) {
             return row("letter", near(persons), near(persons), near(places), near(places));
-        } else if (kind < 23) {
-            return row("answer", letterNear(), letterNear());
-        } else if (kind < 27) {
-            return row("cross", letterNear(), letterNear());
-        } else if (kind < 30) {
-            return row("enclose", letterNear(), letterNear());
-        } else if (kind < 33) {
-            return row("mention", letterNear(), letterNear());
-        } else if (kind < 35) {
-            return row("lost", letterNear(), near(persons), near(persons));
-        } else if (kind < 43) {
-            return row("date", letterNear(), day(span), "no??nx".charAt(pick(pick(9) == 0 ? 6 : 5)), near(4) + 1);
-        } else if (kind < 45) {
-            return row("undate", letterNear());
-        } else if (kind < 48) {
+        } else if (kind < 16) {
+            return row("answer", one, backTo(model, one));
+        } else if (kind < 19) {
+            return row("cross", one, backTo(model, one));
+        } else if (kind < 21) {
+            return row("enclose", one, letterNear());
+        } else if (kind < 24) {
+            return row("mention", one, letterNear());
+        } else if (kind < 26) {
+            return row("lost", one, near(persons), near(persons));
+        } else if (kind < 34) {
+            return row("date", one, day(span), "no??nx".charAt(pick(pick(9) == 0 ? 6 : 5)), near(4) + 1);
+        } else if (kind < 36) {
+            return row("undate", one);
+        } else if (kind < 39) {
             return row("fact", near(persons), day(span) / 2);
-        } else if (kind < 56) {
-            return row("tell", letterNear(), near(3));
-        } else if (kind < 60) {
-            return row("show", letterNear(), near(persons));
+        } else if (kind < 51) {
+            return row("tell", one, factNear());
+        } else if (kind < 55) {
+            return row("show", one, near(persons));
         }
         return asked(persons, span, either);
     }
@@ -122,16 +195,15 @@ public final class ModelTest {
             case 4: return row("canBe", letterNear(), either, day(span + 20));
             case 5: return row("order", letterNear(), letterNear());
             case 6: return row("readings");
-            case 7: case 8: return row("knows", near(persons), near(3));
-            case 9: return row("chain", near(persons), near(3));
-            case 10: case 11: return row("chainAt", near(persons), near(3), near(4));
-            case 12: return row("priority", near(3), near(persons), near(persons));
+            case 7: case 8: return row("knows", near(persons), factNear());
+            case 9: return row("chain", near(persons), factNear());
+            case 10: case 11: return row("chainAt", near(persons), factNear(), pick(3));
+            case 12: return row("priority", factNear(), near(persons), near(persons));
             case 13: return row("holder");
-            case 14: return row("put", letterNear(), near(3));
-            case 15: return row("holderOf", letterNear());
-            case 16: return row("held", near(3));
-            case 17: return row("heldAt", near(3), near(4));
-            case 18: return row("sell", near(3), near(3), either ? -1 : near(persons), near(4));
+            case 14: case 15: return row("put", letterNear(), holderNear());
+            case 16: return either ? row("held", holderNear()) : row("holderOf", letterNear());
+            case 17: return row("heldAt", holderNear(), near(4));
+            case 18: return row("sell", holderNear(), holderNear(), either ? -1 : near(persons), near(4));
             case 19: return pick(3) == 0 ? row("publish") : row("isLost", letterNear());
             case 20: return row("numberOf", letterNear());
             case 21: return row("broker", near(persons));
