@@ -1,0 +1,116 @@
+import java.io.IOException;
+import java.lang.reflect.Constructor;
+import java.lang.reflect.Field;
+import java.lang.reflect.Method;
+import java.lang.reflect.Modifier;
+import java.nio.file.Files;
+import java.nio.file.Path;
+import java.util.Arrays;
+import java.util.List;
+import java.util.Set;
+import java.util.TreeSet;
+import java.util.regex.Matcher;
+import java.util.regex.Pattern;
+import java.util.stream.Collectors;
+
+/** The public face as the document has it, and rules of LANGUAGE.md that can be seen from outside. */
+public final class FaceTest {
+    private static final Path DOCUMENT = Path.of("../shared/DOC.md");
+    private static final Path SOURCE = Path.of("src/main/java/LetterWeb.java");
+
+    private FaceTest() {
+    }
+
+    public static void main(String[] args) throws IOException {
+        String face = Files.readString(DOCUMENT);
+        face = face.substring(face.indexOf("```java"), face.indexOf("## Terms"));
+        Set<String> want = new TreeSet<>();
+        Matcher line = Pattern.compile("public (\\w+) (\\w+)\\(([^)]*)\\)( throws ([^;]*))?;").matcher(face);
+        while (line.find()) {
+            String types = Arrays.stream(line.group(3).split(", ")).map(one -> one.split(" ")[0])
+                .collect(Collectors.joining(","));
+            String thrown = line.group(5) == null ? "" : line.group(5).replace(", ", ",");
+            want.add(line.group(1) + " " + line.group(2) + "(" + types + ") " + thrown);
+        }
+        Check.due("the document's methods", want.size(), 41);
+        Set<String> got = new TreeSet<>();
+        Set<String> names = new TreeSet<>();
+        for (Method method : LetterWeb.class.getDeclaredMethods()) {
+            if (Modifier.isPublic(method.getModifiers())) {
+                got.add(signature(method));
+                names.add(method.getName());
+                Check.due(method + " is of an object", Modifier.isStatic(method.getModifiers()), false);
+            }
+        }
+        Check.due("the public methods", got, want);
+        Check.due("the class", Modifier.toString(LetterWeb.class.getModifiers()), "public final");
+        checkHidden(names);
+        checkSource(Files.readString(SOURCE));
+        Check.end();
+    }
+
+    private static String signature(Method method) {
+        return method.getReturnType().getSimpleName() + " " + method.getName() + "("
+            + Arrays.stream(method.getParameterTypes()).map(Class::getSimpleName).collect(Collectors.joining(","))
+            + ") " + Arrays.stream(method.getExceptionTypes()).map(Class::getSimpleName).collect(Collectors.joining(","));
+    }
+
+    private static void checkHidden(Set<String> names) {
+        Constructor<?>[] constructors = LetterWeb.class.getDeclaredConstructors();
+        Check.due("constructors", constructors.length, 1);
+        Check.due("the constructor", constructors[0].toString(), "public LetterWeb()");
+        for (Field field : LetterWeb.class.getDeclaredFields()) {
+            Check.due(field + " is private", Modifier.isPrivate(field.getModifiers()), true);
+        }
+        for (Method method : LetterWeb.class.getDeclaredMethods()) {
+            if (!Modifier.isPublic(method.getModifiers())) {
+                Check.due(method + " is private", Modifier.isPrivate(method.getModifiers()), true);
+                Check.due(method + " bears a public name", names.contains(method.getName()), false);
+            }
+        }
+        Check.due("at most twelve classes", LetterWeb.class.getDeclaredClasses().length < 12, true);
+        for (Class<?> inside : LetterWeb.class.getDeclaredClasses()) {
+            Check.due(inside + " is static", Modifier.isStatic(inside.getModifiers()), true);
+            Check.due(inside + " has its own names", Arrays.stream(inside.getDeclaredMethods())
+                .anyMatch(method -> names.contains(method.getName())), false);
+            checkStatics(inside);
+        }
+        checkStatics(LetterWeb.class);
+    }
+
+    private static void checkStatics(Class<?> seen) {
+        int fields = 0;
+        for (Field field : seen.getDeclaredFields()) {
+            if (Modifier.isStatic(field.getModifiers())) {
+                Check.due(field + " is final", Modifier.isFinal(field.getModifiers()), true);
+            } else {
+                fields++;
+            }
+        }
+        Check.due(seen + " has at most twenty fields", fields <= 20, true);
+        for (Method method : seen.getDeclaredMethods()) {
+            Check.due(method + " has at most seven parameters", method.getParameterCount() <= 7, true);
+        }
+    }
+
+    private static void checkSource(String source) {
+        List<String> imports = source.lines().filter(line -> line.startsWith("import ")).toList();
+        Check.due("the imports", imports, List.of("import java.util.Arrays;", "import java.util.NoSuchElementException;"));
+        for (String barred : List.of("->", "::", "package ", "catch (", "try {", "assert ", "synchronized", "finally",
+            "hashCode", "toString", "Exact(", "while (")) {
+            Check.due("the source has " + barred, source.contains(barred), false);
+        }
+        Check.due("signs are 1 to 127", source.chars().allMatch(sign -> sign > 0 && sign < 128), true);
+        checkLengths(source);
+    }
+
+    /** Methods end at the brace that stands as far in as they begin. */
+    private static void checkLengths(String source) {
+        Matcher method = Pattern.compile("(?m)^( {4}| {8})(?:public |private )[^;={]*\\([^;]*\\{\\n(?s:.*?)^\\1\\}").matcher(source);
+        int longest = 0;
+        while (method.find()) {
+            longest = Math.max(longest, (int) method.group().lines().count());
+        }
+        Check.due("methods are short", longest > 5 && longest <= 60, true);
+    }
+}
