@@ -301,9 +301,9 @@ public final class LetterWeb {
     public int priority(int fact, int person, int other) throws IndexOutOfBoundsException {
         needFact(fact);
         needPersons(person, other);
-        findChain(person, fact);
+        chains.find(letters, histories, fact, finders[fact], findDays[fact], person);
         int day = chains.bestDay;
-        findChain(other, fact);
+        chains.find(letters, histories, fact, finders[fact], findDays[fact], other);
         if (day == chains.bestDay) {
             return NONE;
         }
@@ -562,7 +562,7 @@ public final class LetterWeb {
     private void needChain(int person, int fact) {
         needPerson(person);
         needFact(fact);
-        findChain(person, fact);
+        chains.find(letters, histories, fact, finders[fact], findDays[fact], person);
         if (chains.bestLength < 0) {
             throw new NoSuchElementException("there is no chain");
         }
@@ -574,11 +574,6 @@ public final class LetterWeb {
         histories.addLetter(least, most);
         letterCount++;
         return letterCount - 1;
-    }
-
-    private void findChain(int person, int fact) {
-        chains.choose(fact, finders[fact], findDays[fact], person);
-        chains.find(letters, histories);
     }
 
     /** Whether a letter is of or to a person; NONE is everybody. */
@@ -724,9 +719,9 @@ public final class LetterWeb {
         private final int[] chosen = new int[MAX_DATES];
         // Found combinations: one digit of base CASES a date, the first date's the highest.
         private final int[] codes = new int[MAX_COMBINATIONS];
-        private int found;
+        // Without letters there is one combination, of no reading, that costs nothing.
+        private int found = 1;
         private int foundPrice;
-        private boolean isFresh;
 
         private final int[] lowest = new int[MAX_NODES];
         private final int[] highest = new int[MAX_NODES];
@@ -742,7 +737,7 @@ public final class LetterWeb {
 
         private void accept() {
             network.keep();
-            isFresh = false;
+            refresh();
         }
 
         /** Begins a trial with one letter more. */
@@ -776,7 +771,7 @@ public final class LetterWeb {
             prices[letter] = price;
             dated[dateCount] = letter;
             dateCount++;
-            isFresh = false;
+            refresh();
         }
 
         private int dropDate(int letter) {
@@ -789,22 +784,19 @@ public final class LetterWeb {
             }
             dateCount = left;
             prices[letter] = 0;
-            isFresh = false;
+            refresh();
             return days[letter];
         }
 
         private int leastPrice() {
-            refresh();
             return foundPrice;
         }
 
         private int combinations() {
-            refresh();
             return found;
         }
 
         private char beliefIn(int letter) {
-            refresh();
             if (believed[letter] == 0) {
                 return 'n';
             }
@@ -812,17 +804,14 @@ public final class LetterWeb {
         }
 
         private int least(int node) {
-            refresh();
             return lowest[node];
         }
 
         private int greatest(int node) {
-            refresh();
             return highest[node];
         }
 
         private boolean isHad(int node, int day) {
-            refresh();
             for (int index = 0; index < found; index++) {
                 open(index);
                 if (day >= low(node) && day <= high(node)) {
@@ -833,7 +822,6 @@ public final class LetterWeb {
         }
 
         private char orderOf(int node, int other) {
-            refresh();
             int mostBehind = -FAR;
             int mostAhead = -FAR;
             for (int index = 0; index < found; index++) {
@@ -855,7 +843,6 @@ public final class LetterWeb {
         }
 
         private boolean areEndsHad(int node) {
-            refresh();
             for (int index = 0; index < found; index++) {
                 open(index);
                 if (low(node) < lowest[node] || high(node) > highest[node]) {
@@ -865,11 +852,8 @@ public final class LetterWeb {
             return isHad(node, lowest[node]) && isHad(node, highest[node]);
         }
 
+        /** Finds the combinations anew, so that all that is asked until the next change can be read. */
         private void refresh() {
-            if (isFresh) {
-                return;
-            }
-            isFresh = true;
             found = 0;
             foundPrice = FAR;
             search(0, 0, 0);
@@ -1013,15 +997,12 @@ public final class LetterWeb {
         private int bestLength = NONE;
         private int bestDay = FAR;
 
-        private void choose(int theFact, int theFinder, int day, int thePerson) {
+        /** Leaves bestLength NONE and bestDay FAR if there is no chain. */
+        private void find(Letter[] letters, Histories histories, int theFact, int theFinder, int day, int thePerson) {
             fact = theFact;
             finder = theFinder;
             findDay = day;
             person = thePerson;
-        }
-
-        /** Leaves bestLength NONE and bestDay FAR if there is no chain. */
-        private void find(Letter[] letters, Histories histories) {
             bestLength = NONE;
             bestDay = FAR;
             if (person == finder) {

@@ -691,7 +691,7 @@ public final class PromiseTest {
         row("those of the person alone", web, 2, 2, 0, 3);
         row("the others stay", web, 1, 1, 4);
         Check.due("none of that person", web.sell(1, 2, 3, 9), 0);
-        Check.due("none left over", web.sell(0, 1, -1, 9), 1);
+        Check.due("one alone", web.sell(0, 1, -1, 1), 1);
         Check.due("from an empty row", web.sell(0, 1, -1, 9), 0);
         Check.dueThrow("to itself", ARGUMENT, () -> web.sell(1, 1, -1, 1));
         Check.dueThrow("none", ARGUMENT, () -> web.sell(1, 0, -1, 0));
@@ -775,6 +775,7 @@ public final class PromiseTest {
         Check.due("on a ring", web.broker(0), 0);
         Check.due("at a bridge", web.broker(2), 2);
         Check.due("at an end", web.broker(3), 0);
+        Check.due("between two neighbours", web(3, 0, "02", "21").broker(2), 1);
         Check.due("not joined at all", web.broker(6), 0);
         add(web, "45");
         Check.due("two parts", web.broker(4), 0);
