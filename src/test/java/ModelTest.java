@@ -14,7 +14,7 @@ public final class ModelTest {
     }
 
     public static void main(String[] args) throws Exception {
-        int runs = args.length > 0 ? Integer.parseInt(args[0]) : 400;
+        int runs = args.length > 0 ? Integer.parseInt(args[0]) : 800;
         int from = args.length > 1 ? Integer.parseInt(args[1]) : 1;
         Map<String, Integer> answers = new TreeMap<>();
         for (int run = from; run < from + runs; run++) {
