@@ -37,48 +37,35 @@ public final class BruteTest {
     }
 
     private static void tryWeb(int number) {
-        LetterWeb web = new LetterWeb();
-        web.person();
-        web.person();
-        web.place();
+        Script script = new Script().thenAll("person()", "person()", "place()");
         int base = new int[] {0, 400, 985}[pick(3)];
         for (int letter = 0; letter < 2; letter++) {
             int least = pick(4);
             int most = least + pick(4);
-            web.route(0, 0, least, most);
-            web.letter(letter, 1 - letter, 0, 0);
+            script.then("route", 0, 0, least, most).then("letter", letter, 1 - letter, 0, 0);
             FACTS_OF[letter] = new int[] {least, most, CALENDARS.charAt(pick(4)), base + pick(15), 1 + pick(3)};
         }
-        tellAll(web);
+        tellAll(script);
         count();
         for (int letter = 0; letter < 2; letter++) {
             if (FACTS_OF[letter][2] != '-') {
-                web.date(letter, FACTS_OF[letter][3], (char) FACTS_OF[letter][2], FACTS_OF[letter][4]);
+                script.then("date", letter, FACTS_OF[letter][3], (char) FACTS_OF[letter][2], FACTS_OF[letter][4]);
             }
         }
-        compare(number, web);
+        compare("web " + number + " ", script);
     }
 
-    private static void tellAll(LetterWeb web) {
+    private static void tellAll(Script script) {
         Arrays.fill(TOLD, false);
+        Object[][] kinds = {Script.row("answer", 1, 0), Script.row("answer", 0, 1), Script.row("cross", 0, 1),
+            Script.row("enclose", 1, 0), Script.row("mention", 1, 0)};
         int kind = pick(7);
-        if (kind < 5) {
-            try {
-                switch (kind) {
-                    case 0 -> web.answer(1, 0);
-                    case 1 -> web.answer(0, 1);
-                    case 2 -> web.cross(0, 1);
-                    case 3 -> web.enclose(1, 0);
-                    default -> web.mention(1, 0);
-                }
-                TOLD[kind] = true;
-            } catch (UnsupportedOperationException refused) {
-                TOLD[kind] = false;
-            }
+        if (kind < kinds.length && Script.ask(script.made(), kinds[kind]) != UnsupportedOperationException.class) {
+            script.then(kinds[kind]);
+            TOLD[kind] = true;
         }
         findDay = Math.min(999, Math.max(0, FACTS_OF[0][3] - 5 + pick(10)));
-        web.fact(0, findDay);
-        web.tell(0, 0);
+        script.then("fact", 0, findDay).then("tell", 0, 0);
     }
 
     private static void count() {
@@ -139,8 +126,8 @@ public final class BruteTest {
         }
     }
 
-    private static void compare(int number, LetterWeb web) {
-        String name = "web " + number + " ";
+    private static void compare(String name, Script script) {
+        LetterWeb web = script.made();
         Check.due(name + "price", web.price(), best);
         Check.due(name + "readings", web.readings(), READINGS.size());
         for (int node = 0; node < 4; node++) {
@@ -156,10 +143,23 @@ public final class BruteTest {
             }
             Check.due(name + "earliest " + node, web.earliest(letter, isWriting), least);
             Check.due(name + "latest " + node, web.latest(letter, isWriting), most);
-            for (int day = 0; day < 1000; day++) {
-                Check.due(name + "canBe " + node + " " + day, web.canBe(letter, isWriting, day), HAD[node][day]);
-            }
+            compareDays(name, script, node);
         }
+        compareRest(name, web);
+    }
+
+    private static void compareDays(String name, Script script, int node) {
+        LetterWeb web = null;
+        for (int day = 0; day < 1000; day++) {
+            // One object is used for some 500 calls only.
+            if (day % 480 == 0) {
+                web = script.made();
+            }
+            Check.due(name + "canBe " + node + " " + day, web.canBe(node / 2, node % 2 == 0, day), HAD[node][day]);
+        }
+    }
+
+    private static void compareRest(String name, LetterWeb web) {
         char order = !ORDERS[1] && !ORDERS[2] ? 'b' : !ORDERS[0] && !ORDERS[1] ? 'a' : !ORDERS[0] && !ORDERS[2] ? '=' : '?';
         Check.due(name + "order", web.order(0, 1), order);
         for (int letter = 0; letter < 2; letter++) {

@@ -2,6 +2,7 @@
 final class Check {
     private static int wrong = 0;
     private static int looked = 0;
+    private static String about = "";
 
     private Check() {
     }
@@ -11,11 +12,16 @@ final class Check {
         Object run() throws Exception;
     }
 
+    /** Tells what the answers from here on are of. */
+    static void about(String words) {
+        about = words + ": ";
+    }
+
     static void due(String what, Object got, Object want) {
         looked++;
         if (!want.equals(got)) {
             wrong++;
-            System.out.println(what + " answered " + got + ", due is " + want);
+            System.out.println(about + what + " answered " + got + ", due is " + want);
         }
     }
 
@@ -24,11 +30,11 @@ final class Check {
         try {
             Object got = call.run();
             wrong++;
-            System.out.println(what + " answered " + got + ", due is " + want.getSimpleName());
+            System.out.println(about + what + " answered " + got + ", due is " + want.getSimpleName());
         } catch (Exception thrown) {
             if (thrown.getClass() != want) {
                 wrong++;
-                System.out.println(what + " threw " + thrown + ", due is " + want.getSimpleName());
+                System.out.println(about + what + " threw " + thrown + ", due is " + want.getSimpleName());
             }
         }
     }

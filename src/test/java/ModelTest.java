@@ -1,5 +1,3 @@
-import java.lang.reflect.InvocationTargetException;
-import java.lang.reflect.Method;
 import java.util.ArrayList;
 import java.util.List;
 import java.util.Map;
@@ -13,7 +11,7 @@ public final class ModelTest {
     private ModelTest() {
     }
 
-    public static void main(String[] args) throws Exception {
+    public static void main(String[] args) {
         int runs = args.length > 0 ? Integer.parseInt(args[0]) : 800;
         int from = args.length > 1 ? Integer.parseInt(args[1]) : 1;
         Map<String, Integer> answers = new TreeMap<>();
@@ -33,7 +31,7 @@ public final class ModelTest {
         return (int) ((seed >>> 33) % bound);
     }
 
-    private static void compare(int run, Map<String, Integer> answers) throws Exception {
+    private static void compare(int run, Map<String, Integer> answers) {
         LetterWeb web = new LetterWeb();
         PlainModel model = new PlainModel();
         int persons = 2 + pick(4);
@@ -42,12 +40,12 @@ public final class ModelTest {
         COUNTS.clear();
         List<String> told = new ArrayList<>();
         for (int call = 0; call < 200; call++) {
-            Object[] row = call < persons ? row("person")
-                : call < persons + places ? row("place") : made(model, persons, places, span);
-            String text = row[0] + argumentText(row);
+            Object[] row = call < persons ? Script.row("person")
+                : call < persons + places ? Script.row("place") : made(model, persons, places, span);
+            String text = Script.textOf(row);
             told.add(text);
-            Object want = ask(model, row);
-            Object got = ask(web, row);
+            Object want = Script.ask(model, row);
+            Object got = Script.ask(web, row);
             if (!(want instanceof Class<?>)) {
                 COUNTS.merge(row[0].equals("lost") ? "letter" : (String) row[0], 1, Integer::sum);
             }
@@ -62,58 +60,46 @@ public final class ModelTest {
     }
 
     /** A run in which most letters tell one fact and letters are shown, so that chains are long. */
-    private static void compareChains(int run, Map<String, Integer> answers) throws Exception {
+    private static void compareChains(int run, Map<String, Integer> answers) {
         LetterWeb web = new LetterWeb();
         PlainModel model = new PlainModel();
         int persons = 3 + pick(3);
         int letters = 5 + pick(4);
         List<Object[]> calls = new ArrayList<>();
         for (int person = 0; person < persons; person++) {
-            calls.add(row("person"));
+            calls.add(Script.row("person"));
         }
-        calls.add(row("place"));
-        calls.add(row("fact", 0, pick(30)));
+        calls.add(Script.row("place"));
+        calls.add(Script.row("fact", 0, pick(30)));
         for (int letter = 0; letter < letters; letter++) {
             int least = pick(4);
-            calls.add(row("route", 0, 0, least, least + pick(8)));
+            calls.add(Script.row("route", 0, 0, least, least + pick(8)));
             int writer = pick(persons);
             int reader = (writer + 1 + (pick(3) > 0 ? 0 : pick(persons - 1))) % persons;
-            calls.add(row("letter", writer, reader, 0, 0));
+            calls.add(Script.row("letter", writer, reader, 0, 0));
             if (pick(8) > 0) {
-                calls.add(row("tell", letter, 0));
+                calls.add(Script.row("tell", letter, 0));
             }
             if (pick(2) > 0) {
-                calls.add(row("show", letter, pick(persons)));
+                calls.add(Script.row("show", letter, pick(persons)));
             }
             if (pick(2) > 0) {
-                calls.add(row("date", letter, pick(40), "no?".charAt(pick(3)), 1 + pick(2)));
+                calls.add(Script.row("date", letter, pick(40), "no?".charAt(pick(3)), 1 + pick(2)));
             }
-            calls.add(row(new String[] {"mention", "cross", "answer", "order", "enclose"}[pick(5)], letter, pick(letter + 1)));
+            calls.add(Script.row(new String[] {"mention", "cross", "answer", "order", "enclose"}[pick(5)], letter, pick(letter + 1)));
         }
         for (int person = 0; person < persons; person++) {
-            calls.add(row("knows", person, 0));
-            calls.add(row("chain", person, 0));
+            calls.add(Script.row("knows", person, 0));
+            calls.add(Script.row("chain", person, 0));
             for (int index = 0; index < 4; index++) {
-                calls.add(row("chainAt", person, 0, index));
+                calls.add(Script.row("chainAt", person, 0, index));
             }
         }
         for (Object[] row : calls) {
-            Object want = ask(model, row);
+            Object want = Script.ask(model, row);
             answers.merge("chains " + row[0] + (row[0].equals("chain") ? " " + want : ""), 1, Integer::sum);
-            Check.due("chain run " + run + " " + row[0] + argumentText(row), ask(web, row), want);
+            Check.due("chain run " + run + " " + Script.textOf(row), Script.ask(web, row), want);
         }
-    }
-
-    private static String argumentText(Object[] row) {
-        StringBuilder text = new StringBuilder("(");
-        for (int at = 1; at < row.length; at++) {
-            text.append(at > 1 ? ", " : "").append(row[at]);
-        }
-        return text.append(")").toString();
-    }
-
-    private static Object[] row(Object... parts) {
-        return parts;
     }
 
     /** A number below a count, now and then one that is out of it. */
@@ -159,72 +145,58 @@ public final class ModelTest {
         int one = letterNear();
         if (kind < 3) {
             int least = near(12);
-            return row("route", near(places), near(places), least, least + near(8));
+            return Script.row("route", near(places), near(places), least, least + near(8));
         } else if (kind < 12) {
-            return row("letter", near(persons), near(persons), near(places), near(places));
+            return Script.row("letter", near(persons), near(persons), near(places), near(places));
         } else if (kind < 16) {
-            return row("answer", one, backTo(model, one));
+            return Script.row("answer", one, backTo(model, one));
         } else if (kind < 19) {
-            return row("cross", one, backTo(model, one));
+            return Script.row("cross", one, backTo(model, one));
         } else if (kind < 21) {
-            return row("enclose", one, letterNear());
+            return Script.row("enclose", one, letterNear());
         } else if (kind < 24) {
-            return row("mention", one, letterNear());
+            return Script.row("mention", one, letterNear());
         } else if (kind < 26) {
-            return row("lost", one, near(persons), near(persons));
+            return Script.row("lost", one, near(persons), near(persons));
         } else if (kind < 34) {
-            return row("date", one, day(span), "no??nx".charAt(pick(pick(9) == 0 ? 6 : 5)), near(4) + 1);
+            return Script.row("date", one, day(span), "no??nx".charAt(pick(pick(9) == 0 ? 6 : 5)), near(4) + 1);
         } else if (kind < 36) {
-            return row("undate", one);
+            return Script.row("undate", one);
         } else if (kind < 39) {
-            return row("fact", near(persons), day(span) / 2);
+            return Script.row("fact", near(persons), day(span) / 2);
         } else if (kind < 51) {
-            return row("tell", one, factNear());
+            return Script.row("tell", one, factNear());
         } else if (kind < 55) {
-            return row("show", one, near(persons));
+            return Script.row("show", one, near(persons));
         }
         return asked(persons, span, either);
     }
 
     private static Object[] asked(int persons, int span, boolean either) {
         switch (pick(26)) {
-            case 0: return row("price");
-            case 1: return row("belief", letterNear());
-            case 2: return row("earliest", letterNear(), either);
-            case 3: return row("latest", letterNear(), either);
-            case 4: return row("canBe", letterNear(), either, day(span + 20));
-            case 5: return row("order", letterNear(), letterNear());
-            case 6: return row("readings");
-            case 7: case 8: return row("knows", near(persons), factNear());
-            case 9: return row("chain", near(persons), factNear());
-            case 10: case 11: return row("chainAt", near(persons), factNear(), pick(3));
-            case 12: return row("priority", factNear(), near(persons), near(persons));
-            case 13: return row("holder");
-            case 14: case 15: return row("put", letterNear(), holderNear());
-            case 16: return either ? row("held", holderNear()) : row("holderOf", letterNear());
-            case 17: return row("heldAt", holderNear(), near(4));
-            case 18: return row("sell", holderNear(), holderNear(), either ? -1 : near(persons), near(4));
-            case 19: return pick(3) == 0 ? row("publish") : row("isLost", letterNear());
-            case 20: return row("numberOf", letterNear());
-            case 21: return row("broker", near(persons));
-            case 22: return row("silence", near(persons), near(persons));
-            case 23: return either ? row("sureShare") : row("personOf", letterNear(), either);
-            case 24: return either ? row("meanWidth") : row("isSound");
-            default: return row("checksum");
+            case 0: return Script.row("price");
+            case 1: return Script.row("belief", letterNear());
+            case 2: return Script.row("earliest", letterNear(), either);
+            case 3: return Script.row("latest", letterNear(), either);
+            case 4: return Script.row("canBe", letterNear(), either, day(span + 20));
+            case 5: return Script.row("order", letterNear(), letterNear());
+            case 6: return Script.row("readings");
+            case 7: case 8: return Script.row("knows", near(persons), factNear());
+            case 9: return Script.row("chain", near(persons), factNear());
+            case 10: case 11: return Script.row("chainAt", near(persons), factNear(), pick(3));
+            case 12: return Script.row("priority", factNear(), near(persons), near(persons));
+            case 13: return Script.row("holder");
+            case 14: case 15: return Script.row("put", letterNear(), holderNear());
+            case 16: return either ? Script.row("held", holderNear()) : Script.row("holderOf", letterNear());
+            case 17: return Script.row("heldAt", holderNear(), near(4));
+            case 18: return Script.row("sell", holderNear(), holderNear(), either ? -1 : near(persons), near(4));
+            case 19: return pick(3) == 0 ? Script.row("publish") : Script.row("isLost", letterNear());
+            case 20: return Script.row("numberOf", letterNear());
+            case 21: return Script.row("broker", near(persons));
+            case 22: return Script.row("silence", near(persons), near(persons));
+            case 23: return either ? Script.row("sureShare") : Script.row("personOf", letterNear(), either);
+            case 24: return either ? Script.row("meanWidth") : Script.row("isSound");
+            default: return Script.row("checksum");
         }
-    }
-
-    /** The answer, or the class of the exception that was thrown. */
-    private static Object ask(Object asked, Object[] row) throws Exception {
-        for (Method method : asked.getClass().getMethods()) {
-            if (method.getName().equals(row[0]) && method.getParameterCount() == row.length - 1) {
-                try {
-                    return method.invoke(asked, java.util.Arrays.copyOfRange(row, 1, row.length));
-                } catch (InvocationTargetException thrown) {
-                    return thrown.getCause().getClass();
-                }
-            }
-        }
-        throw new IllegalStateException("no method " + row[0]);
     }
 }

@@ -1,15 +1,5 @@
-import java.util.NoSuchElementException;
-
 /** Promises 1 to 42, one after another: ordinary calls, the edges that the document names, wrong calls. */
-public final class PromiseTest {
-    private static final Class<IndexOutOfBoundsException> INDEX = IndexOutOfBoundsException.class;
-    private static final Class<IllegalArgumentException> ARGUMENT = IllegalArgumentException.class;
-    private static final Class<IllegalStateException> STATE = IllegalStateException.class;
-    private static final Class<UnsupportedOperationException> UNSUPPORTED = UnsupportedOperationException.class;
-    private static final Class<NoSuchElementException> ELEMENT = NoSuchElementException.class;
-    private static final Class<ArithmeticException> ARITHMETIC = ArithmeticException.class;
-    private static final int[] WRONG = {-1, 12, Integer.MIN_VALUE, Integer.MAX_VALUE};
-
+public final class PromiseTest extends Webs {
     private PromiseTest() {
     }
 
@@ -35,41 +25,6 @@ public final class PromiseTest {
         networks();
         figures();
         Check.end();
-    }
-
-    private static LetterWeb web(int persons, int places) {
-        LetterWeb web = new LetterWeb();
-        for (int person = 0; person < persons; person++) {
-            web.person();
-        }
-        for (int place = 0; place < places; place++) {
-            web.place();
-        }
-        return web;
-    }
-
-    /** A web of one place whose letters take so many days, told by writers and readers: "01" is from 0 to 1. */
-    private static LetterWeb web(int persons, int days, String... pairs) {
-        LetterWeb web = web(persons, 1);
-        web.route(0, 0, days, days);
-        for (String pair : pairs) {
-            add(web, pair);
-        }
-        return web;
-    }
-
-    private static int add(LetterWeb web, String pair) {
-        return web.letter(pair.charAt(0) - '0', pair.charAt(1) - '0', 0, 0);
-    }
-
-    private static void range(String what, LetterWeb web, int letter, int least, int most) {
-        Check.due(what + ": earliest", web.earliest(letter, true), least);
-        Check.due(what + ": latest", web.latest(letter, true), most);
-    }
-
-    private static void arrives(String what, LetterWeb web, int letter, int least, int most) {
-        Check.due(what + ": earliest arrival", web.earliest(letter, false), least);
-        Check.due(what + ": latest arrival", web.latest(letter, false), most);
     }
 
     private static void examples() {
@@ -511,22 +466,6 @@ public final class PromiseTest {
         Check.dueThrow("a lost one tells no such fact", INDEX, () -> web.tell(2, 5));
     }
 
-    private static void knows(String what, LetterWeb web, int person, int fact, int day, int... letters) {
-        Check.due(what + ": knows", web.knows(person, fact), day);
-        Check.due(what + ": chain", web.chain(person, fact), letters.length);
-        for (int index = 0; index < letters.length; index++) {
-            Check.due(what + ": chainAt " + index, web.chainAt(person, fact, index), letters[index]);
-        }
-        Check.dueThrow(what + ": chainAt behind", ELEMENT, () -> web.chainAt(person, fact, letters.length));
-        Check.dueThrow(what + ": chainAt ahead", ELEMENT, () -> web.chainAt(person, fact, -1));
-    }
-
-    private static void knowsNot(String what, LetterWeb web, int person, int fact) {
-        Check.dueThrow(what + ": knows", ELEMENT, () -> web.knows(person, fact));
-        Check.dueThrow(what + ": chain", ELEMENT, () -> web.chain(person, fact));
-        Check.dueThrow(what + ": chainAt", ELEMENT, () -> web.chainAt(person, fact, 0));
-    }
-
     // Promises 25 to 27.
     private static void chains() {
         LetterWeb web = web(7, 5, "01", "12", "23", "34", "45");
@@ -631,16 +570,6 @@ public final class PromiseTest {
         }
     }
 
-    private static void row(String what, LetterWeb web, int holder, int... letters) {
-        Check.due(what + ": held", web.held(holder), letters.length);
-        for (int index = 0; index < letters.length; index++) {
-            Check.due(what + ": heldAt " + index, web.heldAt(holder, index), letters[index]);
-            Check.due(what + ": holderOf", web.holderOf(letters[index]), holder);
-        }
-        Check.dueThrow(what + ": heldAt behind", ELEMENT, () -> web.heldAt(holder, letters.length));
-        Check.dueThrow(what + ": heldAt ahead", ELEMENT, () -> web.heldAt(holder, -1));
-    }
-
     // Promises 29 to 33.
     private static void holders() {
         LetterWeb web = web(3, 0, "01", "12", "20", "01");
@@ -703,12 +632,6 @@ public final class PromiseTest {
         Check.dueThrow("person 4", INDEX, () -> web.sell(0, 0, 4, 0));
         Check.dueThrow("person -2", INDEX, () -> web.sell(0, 0, -2, 0));
         row("what was refused changed nothing", web, 1, 1, 4, 5);
-    }
-
-    private static void numbers(String what, LetterWeb web, int... numbers) {
-        for (int letter = 0; letter < numbers.length; letter++) {
-            Check.due(what + ": number of " + letter, web.numberOf(letter), numbers[letter]);
-        }
     }
 
     // Promises 35 and 36.
