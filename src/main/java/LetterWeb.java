@@ -797,18 +797,19 @@ public final class LetterWeb {
         }
 
         private char beliefIn(int letter) {
-            if (believed[letter] == 0) {
+            int times = isWithin(letter, MAX_LETTERS - 1) ? believed[letter] : 0;
+            if (times == 0) {
                 return 'n';
             }
-            return believed[letter] == found ? 'a' : 's';
+            return times == found ? 'a' : 's';
         }
 
         private int least(int node) {
-            return lowest[node];
+            return isWithin(node, MAX_NODES - 1) ? lowest[node] : 0;
         }
 
         private int greatest(int node) {
-            return highest[node];
+            return isWithin(node, MAX_NODES - 1) ? highest[node] : LAST_DAY;
         }
 
         private boolean isHad(int node, int day) {
@@ -845,11 +846,11 @@ public final class LetterWeb {
         private boolean areEndsHad(int node) {
             for (int index = 0; index < found; index++) {
                 open(index);
-                if (low(node) < lowest[node] || high(node) > highest[node]) {
+                if (low(node) < least(node) || high(node) > greatest(node)) {
                     return false;
                 }
             }
-            return isHad(node, lowest[node]) && isHad(node, highest[node]);
+            return isHad(node, least(node)) && isHad(node, greatest(node));
         }
 
         /** Finds the combinations anew, so that all that is asked until the next change can be read. */
@@ -873,7 +874,7 @@ public final class LetterWeb {
             }
             for (int date = 0; date < dateCount && date < MAX_DATES; date++) {
                 if (chosen[date] != NONE) {
-                    believed[dated[date]]++;
+                    believed[letterOf(date)]++;
                 }
             }
         }
@@ -887,7 +888,7 @@ public final class LetterWeb {
                 record(price, code);
                 return;
             }
-            int letter = dated[date];
+            int letter = letterOf(date);
             for (int reading = CASES - 1; reading > 0; reading--) {
                 int day = dayRead(letter, reading);
                 if (isReading(letter, reading) && isPossible(date, day)) {
@@ -910,6 +911,12 @@ public final class LetterWeb {
             }
         }
 
+        /** The letter of a date; what is no letter's number is taken for 0, so that it can be an index. */
+        private int letterOf(int date) {
+            int letter = isWithin(date, MAX_DATES - 1) ? dated[date] : 0;
+            return isWithin(letter, MAX_LETTERS - 1) ? letter : 0;
+        }
+
         private boolean isReading(int letter, int reading) {
             return calendars[letter] == '?' || calendars[letter] == (reading == 1 ? 'n' : 'o');
         }
@@ -920,12 +927,12 @@ public final class LetterWeb {
 
         /** Days of a closed network that fit in pairs fit together, so pairs are all that is looked at. */
         private boolean isPossible(int date, int day) {
-            int node = writing(dated[date]);
+            int node = writing(letterOf(date));
             if (day > network.most(DAY_ZERO, node) || -day > network.most(node, DAY_ZERO)) {
                 return false;
             }
             for (int before = 0; before < date; before++) {
-                int other = writing(dated[before]);
+                int other = writing(letterOf(before));
                 int apart = day - chosen[before];
                 if (chosen[before] != NONE && (apart > network.most(other, node) || -apart > network.most(node, other))) {
                     return false;
@@ -950,7 +957,7 @@ public final class LetterWeb {
             int rest = index >= 0 && index < found ? codes[index] : 0;
             for (int date = Math.min(dateCount, MAX_DATES) - 1; date >= 0; date--) {
                 int reading = rest % CASES;
-                chosen[date] = reading == 0 ? NONE : dayRead(dated[date], reading);
+                chosen[date] = reading == 0 ? NONE : dayRead(letterOf(date), reading);
                 rest = rest / CASES;
             }
         }
@@ -959,7 +966,7 @@ public final class LetterWeb {
             int day = -network.most(node, DAY_ZERO);
             for (int date = 0; date < dateCount && date < MAX_DATES; date++) {
                 if (chosen[date] != NONE) {
-                    day = Math.max(day, chosen[date] - network.most(node, writing(dated[date])));
+                    day = Math.max(day, chosen[date] - network.most(node, writing(letterOf(date))));
                 }
             }
             return day;
@@ -969,7 +976,7 @@ public final class LetterWeb {
             int day = network.most(DAY_ZERO, node);
             for (int date = 0; date < dateCount && date < MAX_DATES; date++) {
                 if (chosen[date] != NONE) {
-                    day = Math.min(day, chosen[date] + network.most(writing(dated[date]), node));
+                    day = Math.min(day, chosen[date] + network.most(writing(letterOf(date)), node));
                 }
             }
             return day;
@@ -1043,7 +1050,12 @@ public final class LetterWeb {
                 }
             }
             int writer = letters[letter].writer;
-            return length == 0 ? writer == finder : letters[row[length - 1]].isSeenBy(writer);
+            return length == 0 ? writer == finder : isLastSeenBy(letters, length, writer);
+        }
+
+        private boolean isLastSeenBy(Letter[] letters, int length, int reader) {
+            int letter = isWithin(length - 1, MAX_CHAIN - 1) ? row[length - 1] : NONE;
+            return isWithin(letter, letters.length - 1) && letters[letter].isSeenBy(reader);
         }
 
         private void follow(Letter[] letters, int length) {
@@ -1055,7 +1067,7 @@ public final class LetterWeb {
             if (day > bestDay || day == bestDay && length > bestLength) {
                 return;
             }
-            if (!letters[row[length - 1]].isSeenBy(person)) {
+            if (!isLastSeenBy(letters, length, person)) {
                 extend(letters, length);
             } else if (isBetter(length, day)) {
                 System.arraycopy(row, 0, best, 0, length);
@@ -1080,7 +1092,7 @@ public final class LetterWeb {
         /** Finds the least days that the row's letters can have together; returns whether there are any. */
         private boolean settle(int count) {
             for (int index = 0; index < count; index++) {
-                days[index] = lows[nodes[index]];
+                days[index] = lows[nodeAt(index)];
             }
             days[0] = Math.max(days[0], findDay);
             boolean isMoved = true;
@@ -1096,7 +1108,7 @@ public final class LetterWeb {
             for (int to = 0; to < count; to++) {
                 int least = days[to];
                 for (int from = 0; from < count; from++) {
-                    least = Math.max(least, days[from] - most[nodes[to] * MAX_NODES + nodes[from]]);
+                    least = Math.max(least, days[from] - most[nodeAt(to) * MAX_NODES + nodeAt(from)]);
                 }
                 // A letter that hands the fact on is written when the one ahead of it has arrived.
                 if (to > 0 && to % 2 == 0) {
@@ -1110,9 +1122,14 @@ public final class LetterWeb {
             return isMoved;
         }
 
+        private int nodeAt(int index) {
+            int node = index >= 0 && index < nodes.length ? nodes[index] : DAY_ZERO;
+            return node >= 0 && node < MAX_NODES ? node : DAY_ZERO;
+        }
+
         private boolean areLow(int count) {
             for (int index = 0; index < count; index++) {
-                if (days[index] > highs[nodes[index]]) {
+                if (days[index] > highs[nodeAt(index)]) {
                     return false;
                 }
             }
