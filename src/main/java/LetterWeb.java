@@ -888,16 +888,23 @@ public final class LetterWeb {
                 record(price, code);
                 return;
             }
-            int letter = letterOf(date);
-            for (int reading = CASES - 1; reading > 0; reading--) {
-                int day = dayRead(letter, reading);
-                if (isReading(letter, reading) && isPossible(date, day)) {
-                    chosen[date] = day;
-                    search(date + 1, price, code * CASES + reading);
-                }
+            for (int reading = CASES - 1; reading >= 0; reading--) {
+                tryReading(date, reading, price, code * CASES + reading);
             }
-            chosen[date] = NONE;
-            search(date + 1, price + prices[letter], code * CASES);
+        }
+
+        private void tryReading(int date, int reading, int price, int code) {
+            int letter = letterOf(date);
+            if (reading == 0) {
+                chosen[date] = NONE;
+                search(date + 1, price + prices[letter], code);
+                return;
+            }
+            int day = dayRead(letter, reading);
+            if (isReading(letter, reading) && isPossible(date, day)) {
+                chosen[date] = day;
+                search(date + 1, price, code);
+            }
         }
 
         private void record(int price, int code) {

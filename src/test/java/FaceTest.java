@@ -114,16 +114,24 @@ public final class FaceTest {
             Check.due("the source names " + thrown, source.contains(thrown), false);
         }
         Check.due("signs are 1 to 127", source.chars().allMatch(sign -> sign > 0 && sign < 128), true);
-        checkLengths(source);
+        checkMethods(source);
     }
 
     /** Methods end at the brace that stands as far in as they begin. */
-    private static void checkLengths(String source) {
-        Matcher method = Pattern.compile("(?m)^( {4}| {8})(?:public |private )[^;={]*\\([^;]*\\{\\n(?s:.*?)^\\1\\}").matcher(source);
+    private static void checkMethods(String source) {
+        Matcher method = Pattern.compile("(?m)^( {4}| {8})(?:public |private )[^;={(]*?(\\w+)\\([^;]*\\{\\n(?s:.*?)^\\1\\}").matcher(source);
         int longest = 0;
+        int count = 0;
         while (method.find()) {
-            longest = Math.max(longest, (int) method.group().lines().count());
+            String text = method.group();
+            String name = method.group(2);
+            longest = Math.max(longest, (int) text.lines().count());
+            count++;
+            // A method that calls itself is static; others that recur call one another.
+            boolean isRecurring = Pattern.compile("(?<![.\\w])" + name + "\\(").matcher(text.substring(text.indexOf('{'))).find();
+            Check.due(name + " calls itself", isRecurring && !text.lines().findFirst().orElse("").contains(" static "), false);
         }
+        Check.due("methods that were looked at", count > 120, true);
         Check.due("methods have some sixty lines at most", longest <= 66, true);
     }
 }
